@@ -51,8 +51,8 @@ public final class ChartDesk {
     private final Reducer reducer = new Reducer();
     private final Likeness likeness = new Likeness();
     private final Chart trial = new Chart();
-    private final Big one = new Big();
-    private final Big other = new Big();
+    private final Big high = new Big();
+    private final Big low = new Big();
     private final Big spare = new Big();
 
     private Fraction answer = new Fraction();
@@ -400,6 +400,7 @@ public final class ChartDesk {
         if (named == null || early == null || late == null) {
             return NONE;
         }
+        // A product is 0 if from its turn on a SCORE comes that the late BOOK lacks, or before it one that the early lacks.
         int least = 0;
         int most = named.logged;
         for (int i = named.logged - 1; i >= 0; i--) {
@@ -417,16 +418,16 @@ public final class ChartDesk {
     /** All products from turn least to turn most are above 0, so each is told by its ratio to the best one before. */
     private int likeliest(Chart named, Book early, Book late, int least, int most) {
         int best = least;
-        one.become(1);
-        other.become(1);
+        high.become(1);
+        low.become(1);
         for (int i = least; i < most; i++) {
             int score = named.scoreOfLog(i);
-            one.scale(early.lotsOf(score) * late.sum);
-            other.scale(late.lotsOf(score) * early.sum);
-            if (one.against(other) > 0) {
+            high.scale(early.lotsOf(score) * late.sum);
+            low.scale(late.lotsOf(score) * early.sum);
+            if (high.against(low) > 0) {
                 best = i + 1;
-                one.become(1);
-                other.become(1);
+                high.become(1);
+                low.become(1);
             }
         }
         return best;
@@ -452,16 +453,16 @@ public final class ChartDesk {
         if (!within(n, 0, MILLION)) {
             return NONE;
         }
-        one.copyFrom(answer.above);
-        one.scale(n);
-        one.splitBy(answer.below, other, spare);
-        return Math.min(MOST_TIMES, other.value());
+        high.copyFrom(answer.above);
+        high.scale(n);
+        high.splitBy(answer.below, low, spare);
+        return Math.min(MOST_TIMES, low.value());
     }
 
     public int order() {
-        one.product(answer.above, before.below);
-        other.product(before.above, answer.below);
-        return one.against(other);
+        high.product(answer.above, before.below);
+        low.product(before.above, answer.below);
+        return high.against(low);
     }
 
     public boolean image(int place) {
@@ -1339,7 +1340,7 @@ public final class ChartDesk {
         final int[][] rows = new int[MOST_TOGETHER + 1][MOST_TOGETHER + 2];
         /** The mixing row's number, and its unknown's; the column behind it is what each row brings. */
         int last;
-        int prime;
+        int prime = PRIMES[0];
         long aboveRest;
         long belowRest;
 

@@ -15,7 +15,8 @@ public final class ChanceTest {
     private final ChartDesk desk = new ChartDesk();
     private final ReferenceDesk reference = new ReferenceDesk();
     private final StringBuilder calls = new StringBuilder();
-    /** How long the waits asked for may be: small lots and charts in most runs, as the reference is slow. */
+    private final int[] states = {1, 1, 1, 1, 1, 1};
+    /** Few lots and small charts in most runs, as the reference is slow. */
     private final boolean large;
 
     private ChanceTest(long seed) {
@@ -28,11 +29,12 @@ public final class ChanceTest {
     }
 
     private int score() {
-        return random.nextInt(6) == 0 ? between(-20, 20) : between(-4, 4);
+        return random.nextInt(large ? 2 : 12) == 0 ? between(-20, 20) : between(-4, 4);
     }
 
-    private int state() {
-        return random.nextInt(3) == 0 ? between(0, 26) : between(0, 4);
+    /** Of one that the chart has, as far as there is one. */
+    private int state(int c) {
+        return between(0, c >= 0 && c < 6 ? states[c] - 1 : 26);
     }
 
     private void check(String call, long got, long due) {
@@ -55,15 +57,13 @@ public final class ChanceTest {
         return s.append(')').toString();
     }
 
-    private void lots() {
-        int b = between(0, 3);
+    private void lots(int b) {
         int s = score();
         int n = random.nextInt(5) == 0 ? 0 : large ? between(0, 99) : between(0, 6);
         check(text("lots", b, s, n), desk.lots(b, s, n), reference.lots(b, s, n));
     }
 
-    private void chart() {
-        int c = between(0, 5);
+    private void chart(int c) {
         int kind = between(0, 5);
         int p = score();
         int q = 0;
@@ -93,8 +93,11 @@ public final class ChanceTest {
                 r = between(1, 3);
                 break;
         }
-        check(text("chart", c, kind, p, q, r, s, t),
-                desk.chart(c, kind, p, q, r, s, t), reference.chart(c, kind, p, q, r, s, t));
+        int count = desk.chart(c, kind, p, q, r, s, t);
+        check(text("chart", c, kind, p, q, r, s, t), count, reference.chart(c, kind, p, q, r, s, t));
+        if (count > 0) {
+            states[c] = count;
+        }
     }
 
     private void tellAnswer() {
@@ -117,8 +120,8 @@ public final class ChanceTest {
         int b = between(0, 3);
         int c = between(0, 5);
         int s = score();
-        int n = between(0, 40);
-        int state = state();
+        int n = random.nextBoolean() ? between(0, 12) : between(0, 40);
+        int state = state(c);
         switch (random.nextInt(14)) {
             case 0:
                 check(text("lot", a, s), desk.lot(a, s), reference.lot(a, s));
@@ -160,7 +163,7 @@ public final class ChanceTest {
                 break;
             case 11:
                 int seed = random.nextInt();
-                int drawn = between(1, 200);
+                int drawn = random.nextBoolean() ? between(1, 20) : between(1, 200);
                 check(text("draw", c, a, seed, drawn), desk.draw(c, a, seed, drawn), reference.draw(c, a, seed, drawn));
                 break;
             case 12:
@@ -180,7 +183,7 @@ public final class ChanceTest {
         int a = between(0, 3);
         int b = between(0, 3);
         int n = random.nextInt(4) == 0 ? between(0, 40) : between(0, 8);
-        int s = state();
+        int s = state(c);
         switch (which) {
             case 0:
                 check(text("reached", c, a, s), desk.reached(c, a, s), reference.reached(c, a, s));
@@ -205,7 +208,7 @@ public final class ChanceTest {
                 check(text("ahead", c, d, a, w), desk.ahead(c, d, a, w), reference.ahead(c, d, a, w));
                 break;
             case 7:
-                int e = state();
+                int e = state(c);
                 check(text("alike", c, a, s, e), desk.alike(c, a, s, e), reference.alike(c, a, s, e));
                 break;
             case 8:
@@ -217,25 +220,58 @@ public final class ChanceTest {
                 check(text("best", mean, a, b, least), desk.best(mean, a, b, least), reference.best(mean, a, b, least));
                 break;
             default:
-                check(text("back", c, a, b), desk.back(c, a, b), reference.back(c, a, b));
+                back(c, a, b);
                 break;
         }
     }
 
+    /** A log that no call has cut short: of a chart that calls late or never, first by one book, then by another. */
+    private void back(int c, int a, int b) {
+        if (random.nextBoolean()) {
+            check(text("chart", c, 0, -20, 20, 0, 0, 0),
+                    desk.chart(c, 0, -20, 20, 0, 0, 0), reference.chart(c, 0, -20, 20, 0, 0, 0));
+            if (c >= 0 && c < 6) {
+                states[c] = 1;
+            }
+            int[] books = {a, b};
+            for (int book : books) {
+                int seed = random.nextInt();
+                int n = between(1, 22);
+                check(text("draw", c, book, seed, n), desk.draw(c, book, seed, n), reference.draw(c, book, seed, n));
+            }
+        }
+        check(text("back", c, a, b), desk.back(c, a, b), reference.back(c, a, b));
+    }
+
+    private void begin() {
+        for (int i = 0; i < 4; i++) {
+            int scores = large ? 4 + random.nextInt(20) : 2 + random.nextInt(4);
+            for (int k = 0; k < scores; k++) {
+                lots(i);
+            }
+        }
+        for (int i = 0; i < 6; i++) {
+            chart(i);
+        }
+        for (int i = 0; i < 3; i++) {
+            int n = between(0, 20);
+            check(text("sheet", i, n), desk.sheet(i, n), reference.sheet(i, n));
+            for (int k = 0; k < n && k < 41; k++) {
+                int score = score();
+                check(text("put", i, k, score), desk.put(i, k, score), reference.put(i, k, score));
+            }
+        }
+    }
+
     private void run() {
-        for (int i = 0; i < 18; i++) {
-            lots();
-        }
-        for (int i = 0; i < 8; i++) {
-            chart();
-        }
+        begin();
         tellAnswer();
         for (int i = 0; i < 60; i++) {
             int sort = random.nextInt(30);
             if (sort == 0) {
-                lots();
+                lots(between(0, 3));
             } else if (sort == 1) {
-                chart();
+                chart(between(0, 5));
             } else if (sort < 14) {
                 smallCall();
             } else {
@@ -245,12 +281,45 @@ public final class ChanceTest {
         }
     }
 
+    /** The largest charts, by books with lots for every score: the longest fractions that there are. */
+    private void dense() {
+        for (int score = -20; score <= 20; score++) {
+            for (int book = 0; book < 2; book++) {
+                int n = 99 - random.nextInt(9);
+                check(text("lots", book, score, n), desk.lots(book, score, n), reference.lots(book, score, n));
+            }
+        }
+        int[][] charts = {{0, -19, 19, 0, 0, 0}, {1, -20, 20, 5, 4, 4}, {2, 1, 20, 0, 0, 0}, {3, 5, 4, 0, 0, 0},
+            {4, 1, 3, 0, 0, 0}, {5, 3, 8, 3, 0, 0}};
+        for (int c = 0; c < 6; c++) {
+            int[] x = charts[c];
+            check(text("chart", c, x[0], x[1], x[2], x[3], x[4], x[5]),
+                    desk.chart(c, x[0], x[1], x[2], x[3], x[4], x[5]),
+                    reference.chart(c, x[0], x[1], x[2], x[3], x[4], x[5]));
+            int first = reference.of(c, 1);
+            check(text("reached", c, 0, first), desk.reached(c, 0, first), reference.reached(c, 0, first));
+            check(text("mean", c, 0, first), desk.mean(c, 0, first), reference.mean(c, 0, first));
+            tellAnswer();
+            check(text("by", c, 0, first, 40), desk.by(c, 0, first, 40), reference.by(c, 0, first, 40));
+            tellAnswer();
+            check(text("left", c, 1, 40, first), desk.left(c, 1, 40, first), reference.left(c, 1, 40, first));
+            tellAnswer();
+            check(text("found", c, 0, 40, 1), desk.found(c, 0, 40, 1), reference.found(c, 0, 40, 1));
+            tellAnswer();
+            check(text("join", 0, c, 1), desk.join(0, c, 1), reference.join(0, c, 1));
+            tellAnswer();
+            check(text("ahead", c, 0, 1, 0), desk.ahead(c, 0, 1, 0), reference.ahead(c, 0, 1, 0));
+            tellAnswer();
+        }
+    }
+
     public static void main(String[] arguments) {
         int runs = arguments.length > 0 ? Integer.parseInt(arguments[0]) : 150;
         long seed = arguments.length > 1 ? Long.parseLong(arguments[1]) : 1;
         for (int i = 0; i < runs && wrong == 0; i++) {
             new ChanceTest(seed + i).run();
         }
+        new ChanceTest(seed).dense();
         System.out.println(wrong == 0 ? runs + " runs: all answers are as due" : wrong + " answers are not as due");
         if (wrong != 0) {
             System.exit(1);
