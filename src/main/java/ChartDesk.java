@@ -293,7 +293,7 @@ public final class ChartDesk {
             return NONE;
         }
         takeTurns(named, chances, named.first(), n);
-        int node = ways.nodeOf(state, 0);
+        int node = ways.nodeOf(state);
         if (node == NONE) {
             fresh.above.become(0);
         } else {
@@ -993,9 +993,9 @@ public final class ChartDesk {
             }
             int i = 32 * k / WORD_BITS;
             int skipped = 32 * k % WORD_BITS;
-            long low = wordAt(i) | (long) wordAt(i + 1) << WORD_BITS;
-            // Of 60 bits as many as 29 are skipped: the last one of 32 may come from a third word.
-            return (int) (low >>> skipped | (long) wordAt(i + 2) << (2 * WORD_BITS - skipped));
+            // An even number of bits is skipped, 28 at most: two words are enough.
+            long both = wordAt(i) | (long) wordAt(i + 1) << WORD_BITS;
+            return (int) (both >>> skipped);
         }
 
         /** As a long; of more than two words it is above all that is told as one. */
@@ -1151,9 +1151,9 @@ public final class ChartDesk {
             return a >= 0 && a < STATES && b >= 0 && b < STATES;
         }
 
-        /** The node of a pair; NONE if it has not been met. */
-        int nodeOf(int a, int b) {
-            return isPair(a, b) ? place[a * STATES + b] - 1 : NONE;
+        /** The node of one CHART's STATE; NONE if it has not been met. */
+        int nodeOf(int a) {
+            return isPair(a, 0) ? place[a * STATES] - 1 : NONE;
         }
 
         /** The node of a pair, a new one if need be; NONE, and it is SPENT, if there are too many. */

@@ -130,8 +130,17 @@ public final class PromiseTest {
         due(5, "add(0, 1, 0)", x.add(0, 1, 0), true);
         due(5, "99 lots", x.lot(0, 0), 99);
         due(5, "the top", x.lot(0, 20), 9);
+        fill(x, 1, -20, 3, 20, 2);
+        fill(x, 2, 0, 5);
+        due(5, "both ends", x.add(1, 2, 3), true);
+        due(5, "the least", x.lot(3, -20), 15);
+        due(5, "the greatest", x.lot(3, 20), 10);
         fill(x, 1, 1, 1);
         due(5, "a sum beyond the scores", x.add(0, 1, 2), false);
+        fill(x, 1, 20, 1);
+        due(5, "40", x.add(1, 1, 2), false);
+        fill(x, 1, -20, 1);
+        due(5, "-40", x.add(1, 1, 2), false);
         fill(x, 0, -20, 9);
         fill(x, 1, -1, 1);
         due(5, "a sum below the scores", x.add(0, 1, 0), false);
@@ -462,6 +471,14 @@ public final class PromiseTest {
         dueAnswer(17, x, long21, BigInteger.ONE);
         due(29, "cut", x.times(1), 1000000000000000000L);
         due(29, "none", x.times(0), 0);
+        x.chart(4, 2, 0, 9, 0, 0, 0);
+        x.mean(4, 3, 0);
+        due(29, "cut", x.times(1), 1000000000000000000L);
+        x.chart(4, 2, 0, 7, 0, 0, 0);
+        x.mean(4, 3, 0);
+        due(29, "not cut", x.times(99), 999999999999999900L);
+        due(29, "cut", x.times(100), 1000000000000000000L);
+        due(29, "cut", x.times(1000000), 1000000000000000000L);
         fill(x, 3, 20, 3);
         x.chart(5, 5, -20, 1, 1, 0, 0);
         due(17, "gap 1 never calls", x.mean(5, 3, 1), 0);
@@ -586,6 +603,16 @@ public final class PromiseTest {
         due(23, "none above", x.alike(4, 1, 0, 2), 1);
         due(23, "one above", x.alike(4, 1, 0, 3), 0);
         due(24, "kinds", x.kinds(4, 1), 2);
+        x.chart(5, 4, 8, 1, 0, 0, 0);
+        due(16, "three are reached", x.reached(5, 0, 4), 3);
+        due(24, "none of which ever calls", x.kinds(5, 0), 1);
+        int[] ends = {-20, 20};
+        for (int i = 0; i < 2; i++) {
+            fill(x, 3, ends[i], 1);
+            due(23, "by the end " + ends[i], x.alike(2, 3, 0, 2 - i), 0);
+            due(23, "by the end " + ends[i], x.alike(2, 3, 0, 1 + i), 1);
+            due(24, "kinds by the end " + ends[i], x.kinds(2, 3), 2);
+        }
     }
 
     private static void best() {
