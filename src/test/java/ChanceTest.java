@@ -313,6 +313,16 @@ public final class ChanceTest {
         }
     }
 
+    /** Runs with small numbers alone: how many answers were wrong. */
+    static int wrongInSmallRuns(int runs, long seed) {
+        for (long i = seed; i < seed + runs && wrong == 0; i++) {
+            if (i % 10 != 0) {
+                new ChanceTest(i).run();
+            }
+        }
+        return wrong;
+    }
+
     public static void main(String[] arguments) {
         int runs = arguments.length > 0 ? Integer.parseInt(arguments[0]) : 150;
         long seed = arguments.length > 1 ? Long.parseLong(arguments[1]) : 1;
