@@ -9,6 +9,10 @@ import java.util.Random;
 public final class ChanceTest {
     private static final int[] ODD = {-1, -2, 3, 4, 5, 6, 7, 27, 30, 41, 100, -21, 21, 1000001,
         Integer.MAX_VALUE, Integer.MIN_VALUE};
+    /** The document promises nothing about an object after so many calls. */
+    private static final int MOST_CALLS = 512;
+    /** Above the calls of one round, all bits of the longest ANSWER counted. */
+    private static final int MOST_IN_ROUND = 75;
     private static int wrong = 0;
 
     private final Random random;
@@ -18,6 +22,7 @@ public final class ChanceTest {
     private final int[] states = {1, 1, 1, 1, 1, 1};
     /** Few lots and small charts in most runs, as the reference is slow. */
     private final boolean large;
+    private int asked = 0;
 
     private ChanceTest(long seed) {
         random = new Random(seed);
@@ -39,6 +44,10 @@ public final class ChanceTest {
 
     private void check(String call, long got, long due) {
         calls.append(call).append(" = ").append(due).append('\n');
+        asked++;
+        if (asked > MOST_CALLS) {
+            throw new IllegalStateException("a run asks one object too often");
+        }
         if (got != due) {
             wrong++;
             System.out.println(calls + "but it answered " + got);
@@ -266,7 +275,7 @@ public final class ChanceTest {
     private void run() {
         begin();
         tellAnswer();
-        for (int i = 0; i < 60; i++) {
+        for (int i = 0; i < 60 && asked <= MOST_CALLS - MOST_IN_ROUND; i++) {
             int sort = random.nextInt(30);
             if (sort == 0) {
                 lots(between(0, 3));
@@ -281,8 +290,8 @@ public final class ChanceTest {
         }
     }
 
-    /** The largest charts, by books with lots for every score: the longest fractions that there are. */
-    private void dense() {
+    /** The largest chart of a kind, by books with lots for every score: the longest fractions that there are. */
+    private void dense(int c) {
         for (int score = -20; score <= 20; score++) {
             for (int book = 0; book < 2; book++) {
                 int n = 99 - random.nextInt(9);
@@ -291,26 +300,28 @@ public final class ChanceTest {
         }
         int[][] charts = {{0, -19, 19, 0, 0, 0}, {1, -20, 20, 5, 4, 4}, {2, 1, 20, 0, 0, 0}, {3, 5, 4, 0, 0, 0},
             {4, 1, 3, 0, 0, 0}, {5, 3, 8, 3, 0, 0}};
-        for (int c = 0; c < 6; c++) {
-            int[] x = charts[c];
-            check(text("chart", c, x[0], x[1], x[2], x[3], x[4], x[5]),
-                    desk.chart(c, x[0], x[1], x[2], x[3], x[4], x[5]),
-                    reference.chart(c, x[0], x[1], x[2], x[3], x[4], x[5]));
-            int first = reference.of(c, 1);
-            check(text("reached", c, 0, first), desk.reached(c, 0, first), reference.reached(c, 0, first));
-            check(text("mean", c, 0, first), desk.mean(c, 0, first), reference.mean(c, 0, first));
-            tellAnswer();
-            check(text("by", c, 0, first, 40), desk.by(c, 0, first, 40), reference.by(c, 0, first, 40));
-            tellAnswer();
-            check(text("left", c, 1, 40, first), desk.left(c, 1, 40, first), reference.left(c, 1, 40, first));
-            tellAnswer();
-            check(text("found", c, 0, 40, 1), desk.found(c, 0, 40, 1), reference.found(c, 0, 40, 1));
-            tellAnswer();
-            check(text("join", 0, c, 1), desk.join(0, c, 1), reference.join(0, c, 1));
-            tellAnswer();
-            check(text("ahead", c, 0, 1, 0), desk.ahead(c, 0, 1, 0), reference.ahead(c, 0, 1, 0));
-            tellAnswer();
+        int[][] made = {charts[0], charts[c]};
+        for (int i = 0; i < 2; i++) {
+            int[] x = made[i];
+            int at = i == 0 ? 0 : c;
+            check(text("chart", at, x[0], x[1], x[2], x[3], x[4], x[5]),
+                    desk.chart(at, x[0], x[1], x[2], x[3], x[4], x[5]),
+                    reference.chart(at, x[0], x[1], x[2], x[3], x[4], x[5]));
         }
+        int first = reference.of(c, 1);
+        check(text("reached", c, 0, first), desk.reached(c, 0, first), reference.reached(c, 0, first));
+        check(text("mean", c, 0, first), desk.mean(c, 0, first), reference.mean(c, 0, first));
+        tellAnswer();
+        check(text("by", c, 0, first, 40), desk.by(c, 0, first, 40), reference.by(c, 0, first, 40));
+        tellAnswer();
+        check(text("left", c, 1, 40, first), desk.left(c, 1, 40, first), reference.left(c, 1, 40, first));
+        tellAnswer();
+        check(text("found", c, 0, 40, 1), desk.found(c, 0, 40, 1), reference.found(c, 0, 40, 1));
+        tellAnswer();
+        check(text("join", 0, c, 1), desk.join(0, c, 1), reference.join(0, c, 1));
+        tellAnswer();
+        check(text("ahead", c, 0, 1, 0), desk.ahead(c, 0, 1, 0), reference.ahead(c, 0, 1, 0));
+        tellAnswer();
     }
 
     /** Runs with small numbers alone: how many answers were wrong. */
@@ -324,12 +335,14 @@ public final class ChanceTest {
     }
 
     public static void main(String[] arguments) {
-        int runs = arguments.length > 0 ? Integer.parseInt(arguments[0]) : 150;
+        int runs = arguments.length > 0 ? Integer.parseInt(arguments[0]) : 200;
         long seed = arguments.length > 1 ? Long.parseLong(arguments[1]) : 1;
         for (int i = 0; i < runs && wrong == 0; i++) {
             new ChanceTest(seed + i).run();
         }
-        new ChanceTest(seed).dense();
+        for (int c = 0; c < 6; c++) {
+            new ChanceTest(seed + c).dense(c);
+        }
         System.out.println(wrong == 0 ? runs + " runs: all answers are as due" : wrong + " answers are not as due");
         if (wrong != 0) {
             System.exit(1);

@@ -125,6 +125,11 @@ public final class PromiseTest {
         due(5, "whole(0)", x.whole(0), 9);
         due(5, "add with an empty book", x.add(0, 3, 2), true);
         due(5, "whole(2)", x.whole(2), 0);
+        addAtEdges();
+    }
+
+    private static void addAtEdges() {
+        ChartDesk x = new ChartDesk();
         fill(x, 0, 20, 9);
         fill(x, 1, -20, 11, 0, 1);
         due(5, "add(0, 1, 0)", x.add(0, 1, 0), true);
@@ -141,6 +146,11 @@ public final class PromiseTest {
         due(5, "40", x.add(1, 1, 2), false);
         fill(x, 1, -20, 1);
         due(5, "-40", x.add(1, 1, 2), false);
+        addRefused();
+    }
+
+    private static void addRefused() {
+        ChartDesk x = new ChartDesk();
         fill(x, 0, -20, 9);
         fill(x, 1, -1, 1);
         due(5, "a sum below the scores", x.add(0, 1, 0), false);
