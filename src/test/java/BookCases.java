@@ -74,7 +74,8 @@ final class BookCases {
         Cases.holds(4, "the fullest BOOK", Cases.each("lots(3, #, 99)", ALL_SCORES), "whole(3) = 4059; whole(2) = 0");
         Cases.holds(4, "no such BOOK", "lots(0, 0, 1); lots(3, 0, 2); whole(0) = 1; whole(3) = 2",
                 Cases.each("whole(#) = NONE", NO_BOOK));
-        Cases.holds(4, "a refused number of LOTS is not counted", "lots(0, 0, 7); lots(0, 0, 100) = false; whole(0) = 7");
+        Cases.holds(4, "a refused number of LOTS is not counted", "lots(0, 0, 7); lots(0, 0, 100) = false",
+                "whole(0) = 7");
     }
 
     private static void add() {
@@ -83,8 +84,10 @@ final class BookCases {
         Cases.holds(5, "the sum -20 may be", Cases.book(0, -10, 2), Cases.book(1, -10, 3), "add(0, 1, 2) = true",
                 "lot(2, -20) = 6; whole(2) = 6");
         Cases.holds(5, "the ends with 0", Cases.book(0, -20, 2, 20, 3), Cases.book(1, 0, 4), "add(0, 1, 2) = true",
-                "lot(2, -20) = 8; lot(2, 20) = 12; whole(2) = 20; add(1, 0, 3) = true; lot(3, -20) = 8; lot(3, 20) = 12");
-        Cases.holds(5, "the ends come together at 0", Cases.book(0, -20, 3), Cases.book(1, 20, 5), "add(0, 1, 0) = true",
+                "lot(2, -20) = 8; lot(2, 20) = 12; whole(2) = 20; add(1, 0, 3) = true; lot(3, -20) = 8",
+                "lot(3, 20) = 12");
+        Cases.holds(5, "the ends come together at 0",
+                Cases.book(0, -20, 3), Cases.book(1, 20, 5), "add(0, 1, 0) = true",
                 "lot(0, 0) = 15; lot(0, -20) = 0; whole(0) = 15; lot(1, 20) = 5");
         Cases.holds(5, "99 LOTS may be, of one pair", Cases.book(0, 0, 9), Cases.book(1, 3, 11), "add(0, 1, 2) = true",
                 "lot(2, 3) = 99");

@@ -38,7 +38,8 @@ final class ChartCases {
                 "chart(3, 4, 1, 1, MAX, MIN, MAX) = 9; chart(4, 5, 0, 1, 1, MIN, MAX) = 2");
         Cases.holds(6, "a new CHART in the place of one that has CALLED", Cases.FURNISHED, "of(1, 3) = 1; of(1, 5) = 2",
                 "chart(1, 0, -4, 4, 0, 0, 0) = 1", Cases.each("of(1, #) = 0", 0, 1, 2, 3, 4, 5), "log(1, 0) = -100");
-        Cases.holds(6, "a refused CHART leaves the one that is there", Cases.FURNISHED, "chart(1, 0, 5, 4, 0, 0, 0) = NONE",
+        Cases.holds(6, "a refused CHART leaves the one that is there",
+                Cases.FURNISHED, "chart(1, 0, 5, 4, 0, 0, 0) = NONE",
                 "of(1, 0) = 0; of(1, 2) = 1; of(1, 3) = 1; of(1, 4) = 3; of(1, 5) = 2; log(1, 0) = -2");
         Cases.holds(6, "a refused CHART is not there", Cases.FURNISHED, "chart(5, 2, 0, 21, 0, 0, 0) = NONE",
                 "of(5, 0) = NONE; turn(5, 0) = NONE");
@@ -55,7 +56,8 @@ final class ChartCases {
                 Cases.each("chart(0, 0, -3, #, 0, 0, 0) = NONE", 21, MOST), "chart(0, 0, -3, 20, 0, 0, 0) = 1");
         Cases.holds(6, "LINES: low may be high, not above it", Cases.FURNISHED, "chart(0, 0, 1, 0, 0, 0, 0) = NONE",
                 "chart(0, 0, 20, -20, 0, 0, 0) = NONE; chart(0, 0, -19, -20, 0, 0, 0) = NONE",
-                "chart(0, 0, 20, 19, 0, 0, 0) = NONE; chart(0, 0, 0, 0, 0, 0, 0) = 1; chart(0, 0, -20, -20, 0, 0, 0) = 1",
+                "chart(0, 0, 20, 19, 0, 0, 0) = NONE; chart(0, 0, 0, 0, 0, 0, 0) = 1",
+                "chart(0, 0, -20, -20, 0, 0, 0) = 1",
                 "chart(0, 0, 20, 20, 0, 0, 0) = 1; chart(0, 0, -20, 20, 0, 0, 0) = 1");
         Cases.holds(6, "LINES: both on one side of the SCORES", Cases.FURNISHED, "chart(0, 0, 21, 21, 0, 0, 0) = NONE",
                 "chart(0, 0, -21, -21, 0, 0, 0) = NONE; chart(0, 0, MIN, MAX, 0, 0, 0) = NONE");
@@ -75,7 +77,8 @@ final class ChartCases {
         Cases.holds(6, "RUNS: many 1 may be, 0 may not", Cases.FURNISHED,
                 Cases.each("chart(0, 1, -3, 3, 1, #, 3) = NONE", 0, -1, LEAST), "chart(0, 1, -3, 3, 1, 1, 3) = 9");
         Cases.holds(6, "RUNS: many may be of, not above it", Cases.FURNISHED, "chart(0, 1, -3, 3, 1, 2, 1) = NONE",
-                "chart(0, 1, -3, 3, 1, 3, 2) = NONE; chart(0, 1, -3, 3, 1, 4, 3) = NONE; chart(0, 1, -3, 3, 1, MAX, 3) = NONE",
+                "chart(0, 1, -3, 3, 1, 3, 2) = NONE; chart(0, 1, -3, 3, 1, 4, 3) = NONE",
+                "chart(0, 1, -3, 3, 1, MAX, 3) = NONE",
                 "chart(0, 1, -3, 3, 1, 1, 1) = 1; chart(0, 1, -3, 3, 1, 2, 2) = 3; chart(0, 1, -3, 3, 1, 3, 3) = 9",
                 "chart(0, 1, -3, 3, 1, 4, 4) = 27");
         Cases.holds(6, "RUNS: of 1 may be, 0 may not", Cases.FURNISHED,
@@ -109,16 +112,20 @@ final class ChartCases {
     }
 
     private static void of() {
-        Cases.holds(7, "what 0 and 5 may be, -1 and 6 may not", Cases.FURNISHED, "of(4, 0) = 4; of(4, 5) = 0; of(1, 5) = 2",
+        Cases.holds(7, "what 0 and 5 may be, -1 and 6 may not", Cases.FURNISHED, "of(4, 0) = 4; of(4, 5) = 0",
+                "of(1, 5) = 2",
                 Cases.each("of(1, #) = NONE", -1, 6, LEAST, MOST));
         Cases.holds(7, "no such CHART", Cases.FURNISHED, Cases.each("of(#, 0) = NONE; of(#, 5) = NONE", NO_CHART));
-        Cases.holds(7, "a CHART without turns", "chart(5, 5, 0, 8, 3, 0, 0)", "of(5, 0) = 5; of(5, 1) = 8; of(5, 2) = 0",
+        Cases.holds(7, "a CHART without turns", "chart(5, 5, 0, 8, 3, 0, 0)", "of(5, 0) = 5; of(5, 1) = 8",
+                "of(5, 2) = 0",
                 "of(5, 3) = 0; of(5, 4) = 0; of(5, 5) = 0");
         Cases.holds(7, "a LOG has at most 40 SCORES, turns go on", "chart(0, 0, -20, 20, 0, 0, 0)",
-                Cases.many(39, "turn(0, 1)"), "of(0, 2) = 39; turn(0, 2) = 0; of(0, 2) = 40; of(0, 4) = 40; turn(0, 3) = 0",
+                Cases.many(39, "turn(0, 1)"), "of(0, 2) = 39; turn(0, 2) = 0; of(0, 2) = 40; of(0, 4) = 40",
+                "turn(0, 3) = 0",
                 "of(0, 2) = 40; of(0, 4) = 41; of(0, 3) = 0; of(0, 5) = 0");
         Cases.holds(7, "why is of the latest CALL", "chart(0, 1, -4, 4, 1, 2, 2)", "turn(0, 5) = 1; of(0, 5) = 2",
-                "turn(0, -5) = 1; of(0, 5) = 1; turn(0, 2) = 0; of(0, 5) = 1; turn(0, 2) = 1; of(0, 5) = 3; turn(0, -2) = 0",
+                "turn(0, -5) = 1; of(0, 5) = 1; turn(0, 2) = 0; of(0, 5) = 1; turn(0, 2) = 1; of(0, 5) = 3",
+                "turn(0, -2) = 0",
                 "turn(0, -2) = 1; of(0, 5) = 4; of(0, 3) = 4; of(0, 4) = 6; of(0, 2) = 0");
         Cases.holds(7, "why of each other KIND", "chart(0, 2, 0, 0, 0, 0, 0); turn(0, 1) = 1; of(0, 5) = 5",
                 "chart(0, 3, 0, 0, 0, 0, 0); turn(0, 1) = 1; of(0, 5) = 5; turn(0, -1) = 1; of(0, 5) = 6",
@@ -163,7 +170,8 @@ final class ChartCases {
 
     private static void stepByLines() {
         Cases.holds(8, "LINES: low and high do not CALL, the next ones do", "chart(0, 0, -3, 3, 0, 0, 0)",
-                "step(0, 0, -3) = 0; step(0, 0, -4) = -11; step(0, 0, -20) = -11; step(0, 0, 3) = 0; step(0, 0, 4) = -12",
+                "step(0, 0, -3) = 0; step(0, 0, -4) = -11; step(0, 0, -20) = -11; step(0, 0, 3) = 0",
+                "step(0, 0, 4) = -12",
                 "step(0, 0, 20) = -12");
         Cases.holds(8, "LINES: low and high are the same", "chart(0, 0, 20, 20, 0, 0, 0); step(0, 0, 20) = 0",
                 "step(0, 0, 19) = -11; chart(0, 0, -20, -20, 0, 0, 0); step(0, 0, -20) = 0; step(0, 0, -19) = -12");
@@ -181,14 +189,17 @@ final class ChartCases {
         Cases.holds(8, "RUNS: first as LINES", "chart(0, 1, -4, 4, 1, 1, 2); step(0, 0, 4) = -13; step(0, 0, 5) = -12",
                 "step(0, 0, -4) = -14; step(0, 0, -5) = -11; step(0, 1, 5) = -12; step(0, 2, -5) = -11");
         Cases.holds(8, "RUNS: as many call, one less do not", "chart(0, 1, -20, 20, 0, 3, 4); step(0, 1, 1) = 4",
-                "step(0, 4, 1) = -13; step(0, 2, -1) = 8; step(0, 8, -1) = -14; step(0, 10, 0) = 3; step(0, 10, 1) = -13");
+                "step(0, 4, 1) = -13; step(0, 2, -1) = 8; step(0, 8, -1) = -14; step(0, 10, 0) = 3",
+                "step(0, 10, 1) = -13");
         Cases.holds(8, "RUNS: the oldest that counts, and the one ahead of it", "chart(0, 1, -20, 20, 0, 2, 3)",
                 "turn(0, 1) = 0; turn(0, 0) = 0; of(0, 1) = 3; step(0, 3, 1) = -13; turn(0, 0) = 0; of(0, 1) = 0",
                 "turn(0, 1) = 0; of(0, 1) = 1");
         Cases.holds(8, "RUNS: of 4 forgets the fourth", "chart(0, 1, -20, 20, 0, 4, 4); step(0, 9, 0) = 0",
-                "step(0, 18, 0) = 0; step(0, 13, 1) = -13; step(0, 13, 0) = 12; step(0, 26, -1) = -14; step(0, 26, 1) = 25");
+                "step(0, 18, 0) = 0; step(0, 13, 1) = -13; step(0, 13, 0) = 12; step(0, 26, -1) = -14",
+                "step(0, 26, 1) = 25");
         Cases.holds(8, "RUNS: fewer SCORES since the beginning than of", "chart(0, 1, -20, 20, 0, 1, 4)",
-                "step(0, 0, 1) = -13; step(0, 0, -1) = -14; chart(0, 1, -20, 20, 0, 2, 4); turn(0, 1) = 0; turn(0, 1) = 1",
+                "step(0, 0, 1) = -13; step(0, 0, -1) = -14; chart(0, 1, -20, 20, 0, 2, 4); turn(0, 1) = 0",
+                "turn(0, 1) = 1",
                 "turn(0, 1) = 0; of(0, 1) = 1");
         Cases.holds(8, "RUNS: above is looked at ahead of below", "chart(0, 1, -20, 20, 0, 1, 3); step(0, 5, 0) = -13",
                 "step(0, 7, 0) = -13; step(0, 8, 0) = -14; step(0, 6, 0) = -14; step(0, 6, 1) = -13");
@@ -203,7 +214,8 @@ final class ChartCases {
                 "step(0, 0, -20) = 0");
         Cases.holds(8, "SUMS: the least mean", "chart(0, 2, -20, 20, 0, 0, 0); step(0, 0, -20) = 0; step(0, 0, 0) = 20",
                 "step(0, 0, 1) = -15; step(0, 20, -20) = 20; step(0, 20, -19) = -15; step(0, 20, 20) = -15");
-        Cases.holds(8, "SUMS: the greatest mean", "chart(0, 2, 20, 20, 0, 0, 0); step(0, 20, 20) = 20; step(0, 0, 20) = 0",
+        Cases.holds(8, "SUMS: the greatest mean", "chart(0, 2, 20, 20, 0, 0, 0); step(0, 20, 20) = 20",
+                "step(0, 0, 20) = 0",
                 "step(0, 20, -20) = 0; step(0, 20, 0) = 0; step(0, 20, 1) = 1");
     }
 
@@ -211,28 +223,35 @@ final class ChartCases {
         Cases.holds(8, "TWO: line 0", "chart(0, 3, 0, 0, 0, 0, 0); step(0, 0, 0) = 0; step(0, 0, 1) = -15",
                 "step(0, 0, -1) = -16");
         Cases.holds(8, "TWO: at the line it does not CALL, above it does", "chart(0, 3, 0, 4, 0, 0, 0)",
-                "step(0, 0, 4) = 20; step(0, 0, 5) = -15; step(0, 0, -4) = 4; step(0, 0, -5) = -16; step(0, 24, 0) = 24",
+                "step(0, 0, 4) = 20; step(0, 0, 5) = -15; step(0, 0, -4) = 4; step(0, 0, -5) = -16",
+                "step(0, 24, 0) = 24",
                 "step(0, 24, 1) = -15; step(0, 24, -1) = -16; step(0, 20, -20) = -16; step(0, 4, 20) = -15");
         Cases.holds(8, "TWO: neither is below 0", "chart(0, 3, 1, 4, 0, 0, 0); step(0, 0, 0) = 0; step(0, 6, 0) = 0",
                 "step(0, 1, 1) = 0; step(0, 5, -1) = 0; step(0, 12, 0) = 6");
-        Cases.holds(8, "TWO: the greatest mean", "chart(0, 3, 20, 4, 0, 0, 0); step(0, 24, 20) = 20; step(0, 24, -20) = 4",
+        Cases.holds(8, "TWO: the greatest mean", "chart(0, 3, 20, 4, 0, 0, 0); step(0, 24, 20) = 20",
+                "step(0, 24, -20) = 4",
                 "step(0, 24, 0) = 0; step(0, 0, 20) = 0; step(0, 0, -20) = 0");
     }
 
     private static void stepByFading() {
         Cases.holds(8, "FADING: line 0", "chart(0, 4, 1, 0, 0, 0, 0); step(0, 0, 0) = 0; step(0, 0, 1) = 0",
                 "step(0, 0, -1) = 0; step(0, 0, 2) = -12; step(0, 0, -2) = -11");
-        Cases.holds(8, "FADING: share 8 forgets all", "chart(0, 4, 8, 3, 0, 0, 0); step(0, 0, 3) = 24; step(0, 24, 3) = 24",
+        Cases.holds(8, "FADING: share 8 forgets all", "chart(0, 4, 8, 3, 0, 0, 0); step(0, 0, 3) = 24",
+                "step(0, 24, 3) = 24",
                 "step(0, 12, 4) = -12; step(0, 24, -3) = 0; step(0, 12, -4) = -11; step(0, 24, 0) = 12");
         Cases.holds(8, "FADING: of two as near the even one", "chart(0, 4, 1, 3, 0, 0, 0)", "step(0, 12, 1) = 12",
-                "step(0, 12, 3) = 14; step(0, 12, 5) = 14; step(0, 12, -1) = 12; step(0, 12, -3) = 10; step(0, 12, -5) = 10");
+                "step(0, 12, 3) = 14; step(0, 12, 5) = 14; step(0, 12, -1) = 12; step(0, 12, -3) = 10",
+                "step(0, 12, -5) = 10");
         Cases.holds(8, "FADING: the nearest on both sides of a half", "chart(0, 4, 3, 3, 0, 0, 0); step(0, 13, 0) = 13",
-                "step(0, 11, 0) = 11; step(0, 15, 0) = 14; step(0, 9, 0) = 10; step(0, 14, 0) = 13; step(0, 10, 0) = 11");
+                "step(0, 11, 0) = 11; step(0, 15, 0) = 14; step(0, 9, 0) = 10; step(0, 14, 0) = 13",
+                "step(0, 10, 0) = 11");
         Cases.holds(8, "FADING: a half at the line is rounded down to it", "chart(0, 4, 1, 3, 0, 0, 0)",
-                "step(0, 24, 3) = 24; step(0, 24, 4) = 24; step(0, 24, 5) = -12; step(0, 0, -3) = 0; step(0, 0, -4) = 0",
+                "step(0, 24, 3) = 24; step(0, 24, 4) = 24; step(0, 24, 5) = -12; step(0, 0, -3) = 0",
+                "step(0, 0, -4) = 0",
                 "step(0, 0, -5) = -11");
         Cases.holds(8, "FADING: the ends of the SCORES", "chart(0, 4, 1, 3, 0, 0, 0); step(0, 24, 20) = -12",
-                "step(0, 0, -20) = -11; step(0, 0, 20) = 12; step(0, 24, -20) = 12; step(0, 12, 20) = 22; step(0, 12, -20) = 2");
+                "step(0, 0, -20) = -11; step(0, 0, 20) = 12; step(0, 24, -20) = 12; step(0, 12, 20) = 22",
+                "step(0, 12, -20) = 2");
     }
 
     private static void stepByCounts() {
@@ -244,7 +263,8 @@ final class ChartCases {
                 "step(0, 0, 2) = 5; step(0, 2, 2) = 5; step(0, 3, 2) = 0; step(0, 4, 2) = 0; step(0, 7, 2) = 10",
                 "step(0, 8, 2) = 0; step(0, 9, 2) = 0");
         Cases.holds(8, "COUNTS: r is many", "chart(0, 5, 1, 4, 2, 0, 0)", "step(0, 5, 2) = -17; step(0, 7, 2) = -17",
-                "step(0, 8, 2) = 0; chart(0, 5, 0, 8, 1, 0, 0); step(0, 8, 1) = 0; step(0, 0, 1) = -17; step(0, 6, 1) = -17",
+                "step(0, 8, 2) = 0; chart(0, 5, 0, 8, 1, 0, 0); step(0, 8, 1) = 0; step(0, 0, 1) = -17",
+                "step(0, 6, 1) = -17",
                 "step(0, 7, 1) = 0; chart(0, 5, 0, 8, 3, 0, 0); step(0, 18, 1) = -17; step(0, 24, 1) = -17",
                 "step(0, 25, 1) = 0; step(0, 26, 1) = 0; step(0, 26, 0) = 26; step(0, 15, 1) = 18");
         Cases.holds(8, "COUNTS: gap 1 never CALLS", "chart(0, 5, 0, 1, 1, 0, 0); step(0, 1, 1) = 0; step(0, 0, 1) = 0",
@@ -260,12 +280,16 @@ final class ChartCases {
                 Cases.each("turn(0, #) = NONE", NO_SCORE), "turn(0, -20) = 0; of(0, 1) = 0; turn(0, 20) = 1");
         Cases.holds(9, "at the line 0, above it 1", "chart(0, 2, 0, 3, 0, 0, 0); turn(0, 3) = 0; of(0, 1) = 3",
                 "turn(0, 0) = 0; turn(0, 1) = 1; of(0, 1) = 0; of(0, 3) = 1; of(0, 4) = 3");
-        Cases.holds(9, "after a CALL it is in its first STATE, of each KIND", "chart(0, 1, -4, 4, 1, 2, 3); turn(0, 2) = 0",
-                "turn(0, 2) = 1; of(0, 1) = 0; chart(0, 3, 0, 4, 0, 0, 0); turn(0, -4) = 0; turn(0, -1) = 1; of(0, 1) = 0",
+        Cases.holds(9, "after a CALL it is in its first STATE, of each KIND", "chart(0, 1, -4, 4, 1, 2, 3)",
+                "turn(0, 2) = 0",
+                "turn(0, 2) = 1; of(0, 1) = 0; chart(0, 3, 0, 4, 0, 0, 0); turn(0, -4) = 0; turn(0, -1) = 1",
+                "of(0, 1) = 0",
                 "chart(0, 4, 8, 3, 0, 0, 0); turn(0, 3) = 0; of(0, 1) = 24; turn(0, 4) = 1; of(0, 1) = 12",
                 "chart(0, 5, 0, 4, 1, 0, 0); turn(0, 1) = 0; of(0, 1) = 0; turn(0, 1) = 1; of(0, 1) = 4");
-        Cases.holds(9, "a CALL at the first turn", "chart(0, 0, 0, 0, 0, 0, 0); turn(0, 1) = 1; of(0, 2) = 0; of(0, 3) = 1",
-                "of(0, 4) = 1; of(0, 5) = 2; turn(0, -1) = 1; of(0, 3) = 2; of(0, 5) = 1; turn(0, 0) = 0; of(0, 2) = 1");
+        Cases.holds(9, "a CALL at the first turn", "chart(0, 0, 0, 0, 0, 0, 0); turn(0, 1) = 1; of(0, 2) = 0",
+                "of(0, 3) = 1",
+                "of(0, 4) = 1; of(0, 5) = 2; turn(0, -1) = 1; of(0, 3) = 2; of(0, 5) = 1; turn(0, 0) = 0",
+                "of(0, 2) = 1");
         Cases.longRunHolds(9, "the 512th call of an object", "chart(0, 2, 0, 1, 0, 0, 0)", Cases.many(255,
                 "turn(0, 1) = 0; turn(0, 1) = 1"), "of(0, 3) = 255");
     }
@@ -286,11 +310,13 @@ final class ChartCases {
 
     private static void log() {
         Cases.holds(11, "no such CHART", Cases.FURNISHED, Cases.each("log(#, 0) = -100", NO_CHART));
-        Cases.holds(11, "an empty LOG", "chart(0, 0, -4, 4, 0, 0, 0)", Cases.each("log(0, #) = -100", -1, 0, 1, 39, 40));
+        Cases.holds(11, "an empty LOG", "chart(0, 0, -4, 4, 0, 0, 0)",
+                Cases.each("log(0, #) = -100", -1, 0, 1, 39, 40));
         Cases.holds(11, "the oldest, the latest, and none beyond", "chart(0, 0, -20, 20, 0, 0, 0); turn(0, -20)",
                 "turn(0, 0); turn(0, 20); log(0, 0) = -20; log(0, 1) = 0; log(0, 2) = 20",
                 Cases.each("log(0, #) = -100", -1, 3, LEAST, MOST));
-        Cases.holds(11, "40 SCORES: all are there", "chart(0, 0, -20, 20, 0, 0, 0); turn(0, 9)", Cases.many(38, "turn(0, 0)"),
+        Cases.holds(11, "40 SCORES: all are there", "chart(0, 0, -20, 20, 0, 0, 0); turn(0, 9)",
+                Cases.many(38, "turn(0, 0)"),
                 "turn(0, 8); log(0, 0) = 9; log(0, 1) = 0; log(0, 38) = 0; log(0, 39) = 8; log(0, 40) = -100");
         Cases.holds(11, "the 41st drives out the oldest", "chart(0, 0, -20, 20, 0, 0, 0); turn(0, 9); turn(0, 7)",
                 Cases.many(38, "turn(0, 0)"), "log(0, 0) = 9; turn(0, 8); log(0, 0) = 7; log(0, 1) = 0; log(0, 38) = 0",
@@ -302,7 +328,8 @@ final class ChartCases {
         Cases.holds(11, "a CALL empties it, and its SCORE is not there", "chart(0, 0, -4, 4, 0, 0, 0); turn(0, 3)",
                 "turn(0, 5) = 1; log(0, 0) = -100; of(0, 2) = 0; turn(0, 2); log(0, 0) = 2; log(0, 1) = -100");
         Cases.holds(11, "a CALL empties a full one", "chart(0, 0, -4, 4, 0, 0, 0)", Cases.many(45, "turn(0, 3)"),
-                "turn(0, 5) = 1; log(0, 0) = -100; log(0, 39) = -100; turn(0, 1); turn(0, 2); log(0, 0) = 1; log(0, 1) = 2",
+                "turn(0, 5) = 1; log(0, 0) = -100; log(0, 39) = -100; turn(0, 1); turn(0, 2); log(0, 0) = 1",
+                "log(0, 1) = 2",
                 "log(0, 2) = -100; of(0, 2) = 2");
         Cases.holds(11, "a new CHART has an empty one", "chart(0, 0, -20, 20, 0, 0, 0)", Cases.many(41, "turn(0, 3)"),
                 "chart(0, 0, -20, 20, 0, 0, 0) = 1; log(0, 0) = -100; turn(0, 4); log(0, 0) = 4; log(0, 1) = -100");
