@@ -242,6 +242,9 @@ final class WaitCases {
                 "alike(4, 2, 0, 16) = 1");
         Cases.holds(23, "a CALL at once from both, by other whys", Cases.FURNISHED, "alike(2, 0, 4, 8) = 1",
                 "alike(2, 2, 4, 8) = 1; alike(2, 2, 4, 0) = 0");
+        Cases.holds(23, "STATE 0 from the one, a CALL from the other", "lots(0, 1, 1); chart(0, 5, 0, 8, 1, 0, 0)",
+                "step(0, 0, 1) = -17; step(0, 7, 1) = 0; alike(0, 0, 0, 7) = 0; alike(0, 0, 7, 0) = 0; alike(0, 0, 7, 8) = 1",
+                "alike(0, 0, 0, 6) = 1; kinds(0, 0) = 2");
         Cases.holds(23, "told apart by the 21st turn alone", "lots(0, 1, 1); chart(0, 2, 0, 20, 0, 0, 0)",
                 "alike(0, 0, 0, 1) = 0; alike(0, 0, 19, 20) = 0; lots(0, 1, 0); lots(0, 20, 1); alike(0, 0, 0, 1) = 0",
                 "alike(0, 0, 1, 20) = 1");
