@@ -11,10 +11,8 @@ import java.util.TreeSet;
 import java.util.regex.Matcher;
 import java.util.regex.Pattern;
 
-/** The rules of LANGUAGE.md that can be looked up in the class and in its text. */
+/** The rules of LANGUAGE.md that can be looked up in the class and in its text; those about calls are in CallsTest. */
 public final class LanguageTest {
-    private static final String FACE = "add again ahead alike anew back best bits by chart draw found image join kinds "
-            + "left length log lot lots mean of order put reached run sheet step times turn whole";
     private static int wrong = 0;
 
     private static void must(boolean holds, String rule) {
@@ -24,26 +22,21 @@ public final class LanguageTest {
         }
     }
 
-    private static void face() {
-        must(Modifier.isPublic(ChartDesk.class.getModifiers()) && Modifier.isFinal(ChartDesk.class.getModifiers()),
-                "1: the class is public and final");
-        Set<String> open = new TreeSet<>();
+    /** The names of the public methods, which FaceTest holds to the document. */
+    private static Set<String> face() {
+        Set<String> names = new TreeSet<>();
         for (Method m : ChartDesk.class.getDeclaredMethods()) {
-            if (!Modifier.isPrivate(m.getModifiers())) {
-                must(Modifier.isPublic(m.getModifiers()) && open.add(m.getName()), "1: " + m + " is of the face, once");
+            if (Modifier.isPublic(m.getModifiers())) {
+                must(names.add(m.getName()), "1: " + m + " is of the face, once");
             }
         }
-        must(open.equals(new TreeSet<>(Arrays.asList(FACE.split(" ")))), "1: the face's methods are " + open);
-        for (Field f : ChartDesk.class.getDeclaredFields()) {
-            must(Modifier.isPrivate(f.getModifiers()) || f.getName().equals("NONE"), "1: " + f + " is private");
-        }
-        must(ChartDesk.class.getDeclaredConstructors().length == 1, "1: one constructor");
+        return names;
     }
 
     private static void classes() {
         List<Class<?>> all = new ArrayList<>(Arrays.asList(ChartDesk.class.getDeclaredClasses()));
         must(all.size() <= 12, "11: some twelve classes, not " + all.size());
-        Set<String> face = Set.of(FACE.split(" "));
+        Set<String> face = face();
         for (Class<?> inside : all) {
             int kind = inside.getModifiers();
             must(Modifier.isStatic(kind) && !Modifier.isPublic(kind) && !Modifier.isProtected(kind),
@@ -76,12 +69,6 @@ public final class LanguageTest {
         while (imports.find()) {
             must(imports.group(1).equals("java.util.Arrays"), "4: import of " + imports.group(1));
         }
-        Matcher calls = Pattern.compile("\\b(Math|Integer|Long|Arrays|System)\\.(\\w+)").matcher(code);
-        Set<String> allowed = Set.of("Math.max", "Math.min", "Arrays.fill", "System.arraycopy",
-                "Integer.numberOfLeadingZeros");
-        while (calls.find()) {
-            must(allowed.contains(calls.group()), "4: use of " + calls.group());
-        }
         int start = -1;
         String[] lines = source.split("\n");
         for (int i = 0; i < lines.length; i++) {
@@ -97,7 +84,6 @@ public final class LanguageTest {
     }
 
     public static void main(String[] arguments) throws Exception {
-        face();
         classes();
         text(Files.readString(Path.of("src/main/java/ChartDesk.java")));
         System.out.println(wrong == 0 ? "no rule is broken" : wrong + " rules are broken");
